@@ -42,6 +42,10 @@ public final class MatchTrees {
     private static final int PATTERN_DEPTH = 4;
     // Four columns, twelve doors and a leaf.
     private static final int TREE_DEPTH = 20;
+    // Nodes are 1000000 at most, tests four for each of 20000 rows, the longest way has four columns.
+    private static final int NODES_BITS = 20;
+    private static final int TESTS_BITS = 17;
+    private static final int COUNT_BITS = 40;
 
     private static final int FAULT_SYNTAX = 1;
     private static final int FAULT_TAKEN = 2;
@@ -352,12 +356,12 @@ public final class MatchTrees {
         if (!matched() || !isRule(rule)) {
             return NONE;
         }
-        trees.measureAll(order, rule);
+        long counts = trees.measureAll(order, rule);
         switch (what) {
-            case 0: return trees.nodes[trees.root];
+            case 0: return Trees.nodesIn(counts);
             case 1: return trees.unlike;
-            case 2: return trees.longest[trees.root];
-            case 3: return trees.tests[trees.root];
+            case 2: return Trees.longestIn(counts);
+            case 3: return Trees.testsIn(counts);
             default: return NONE;
         }
     }
@@ -425,8 +429,7 @@ public final class MatchTrees {
     }
 
     private int allTests(Order arms) {
-        trees.measureAll(arms, arms.rule);
-        return trees.tests[trees.root];
+        return Trees.testsIn(trees.measureAll(arms, arms.rule));
     }
 
     // ---- which guards are on
@@ -1633,13 +1636,10 @@ public final class MatchTrees {
         // A node's branches are by how many columns are left there: below it these are fewer.
         final Groups[] branch = new Groups[COLUMNS_MOST];
         final Marks marks;
-        final int[] time = new int[NODE_SETS];
-        final int[] nodes = new int[NODE_SETS];
-        final int[] tests = new int[NODE_SETS];
-        final int[] longest = new int[NODE_SETS];
+        // For each node what was counted below it, packed with the time: one row in place of four.
+        final long[] counted = new long[NODE_SETS];
         int now;
         int unlike;
-        int root;
         final int[] scopesShut = new int[BUDGET_MOST];
         int scopesOpened;
         int scopesOpen;
@@ -1753,59 +1753,62 @@ public final class MatchTrees {
             return product;
         }
 
-        void measureAll(Order its, int itsRule) {
+        /** Counts what is in the whole tree: nodesIn, testsIn and longestIn tell it. */
+        long measureAll(Order its, int itsRule) {
             order = its;
             rule = itsRule;
             now++;
             unlike = 0;
-            root = measure(this, order.allArms(), allColumns(), 0);
+            return measure(this, order.allArms(), allColumns(), 0);
         }
 
-        /** Counts what is below a node, once for all that are like it: where the counts stand. */
-        private static int measure(Trees t, int left, int open, int depth) {
+        /** Counts what is below a node, once for all that are like it. */
+        private static long measure(Trees t, int left, int open, int depth) {
             int key = open * ARM_SETS + left;
-            if (key < 0 || key >= NODE_SETS) {
+            if (key < 0 || key >= NODE_SETS || depth > TREE_DEPTH) {
                 return 0;
             }
-            if (t.time[key] == t.now) {
-                return key;
+            if (t.counted[key] >>> COUNT_BITS == t.now) {
+                return t.counted[key];
             }
-            t.time[key] = t.now;
             t.unlike++;
-            t.nodes[key] = 1;
-            t.tests[key] = 0;
-            t.longest[key] = 0;
+            int nodes = 1;
+            int tests = 0;
+            int longest = 0;
             int asked = t.columnAsked(left, open);
-            if (depth > TREE_DEPTH || left == 0) {
-                return key;
-            }
-            if (asked == NONE) {
-                measureDoor(t, left, open, key, depth);
-                return key;
-            }
-            t.tests[key] = t.rowsOf(open);
-            Groups branches = t.split(left, open, asked);
-            int rest = open & ~(1 << asked);
-            for (int i = 0; i < branches.count; i++) {
-                int below = measure(t, branches.arms[i], rest, depth + 1);
-                t.nodes[key] = Math.min(NODES_TOLD, t.nodes[key] + t.nodes[below]);
-                t.tests[key] += branches.size[i] * t.tests[below];
-                t.longest[key] = Math.max(t.longest[key], t.longest[below] + 1);
-            }
-            return key;
-        }
-
-        /** An end has nothing below it; a door lets rows through only if its guard is off. */
-        private static void measureDoor(Trees t, int left, int open, int key, int depth) {
             int head = t.order.firstOf(left);
             int guard = t.table.guardOf(head);
-            if (head == NONE || guard == NONE) {
-                return;
+            if (asked != NONE) {
+                tests = t.rowsOf(open);
+                Groups branches = t.split(left, open, asked);
+                int rest = open & ~(1 << asked);
+                for (int i = 0; i < branches.count; i++) {
+                    long below = measure(t, branches.arms[i], rest, depth + 1);
+                    nodes = Math.min(NODES_TOLD, nodes + nodesIn(below));
+                    tests += branches.size[i] * testsIn(below);
+                    longest = Math.max(longest, longestIn(below) + 1);
+                }
+            } else if (guard != NONE) {
+                long below = measure(t, left & ~(1 << head), open, depth + 1);
+                nodes = Math.min(NODES_TOLD, nodes + nodesIn(below));
+                tests = isIn(t.order.on, guard) ? 0 : testsIn(below);
+                longest = longestIn(below);
             }
-            int below = measure(t, left & ~(1 << head), open, depth + 1);
-            t.nodes[key] = Math.min(NODES_TOLD, 1 + t.nodes[below]);
-            t.longest[key] = t.longest[below];
-            t.tests[key] = isIn(t.order.on, guard) ? 0 : t.tests[below];
+            long counts = ((long) longest << TESTS_BITS | tests) << NODES_BITS | nodes;
+            t.counted[key] = (long) t.now << COUNT_BITS | counts;
+            return t.counted[key];
+        }
+
+        static int nodesIn(long counts) {
+            return (int) (counts & (1 << NODES_BITS) - 1);
+        }
+
+        static int testsIn(long counts) {
+            return (int) (counts >>> NODES_BITS & (1 << TESTS_BITS) - 1);
+        }
+
+        static int longestIn(long counts) {
+            return (int) (counts >>> NODES_BITS + TESTS_BITS & 7);
         }
 
         int firstColumn(Order its, int itsRule) {

@@ -183,6 +183,9 @@ public final class ActTest {
         MatchTrees many = Given.matched("match num;arm 1 when 0;arm 1 when 0;arm 2 when 3;arm 2;arm 3 when 5;arm 3 when 6;"
             + "arm any when 7;");
         Given.due("told apart by arms", many.tells(1), 128);
+        MatchTrees twelve = Given.matched("match num;arm 5 when 0;" + "arm 19;".repeat(10) + "arm any;");
+        Given.due("by the last of twelve arms", twelve.tells(0), 5);
+        Given.due("left", twelve.tells(1), 128);
         Given.due("without a match", new MatchTrees().tells(0), NONE);
     }
 

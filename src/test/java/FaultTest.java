@@ -213,6 +213,25 @@ public final class FaultTest {
         badRow("n,t,20", 4, 4);
     }
 
+    private static void rowsOfTwoFields() {
+        String ahead = "kind a;con p num num;con q;match a;";
+        String[] texts = {"p(1)", "p(1;2)", "p(1 2)", "p(,2)", "p(1,)", "p(1,2", "p(1,2,3)", "p1,2)", "q()", "p(20,1)",
+            "p(1,20)", "p(q,1)", "p(1,2)q"};
+        int[] faults = {1, 1, 1, 1, 1, 1, 1, 1, 1, 4, 4, 1, 1};
+        int[] places = {3, 3, 4, 2, 4, 5, 5, 1, 1, 2, 4, 2, 6};
+        MatchTrees x = Given.matched(ahead);
+        for (int i = 0; i < texts.length; i++) {
+            Given.put(x, texts[i]);
+            Given.due("row " + texts[i], x.row(), MatchTrees.NONE);
+            Given.due("fault of row " + texts[i], x.fault(0), faults[i]);
+            Given.due("place in row " + texts[i], x.fault(1), places[i]);
+        }
+        Given.put(x, "p(19,7)");
+        Given.due("row", x.row(), 387);
+        Given.put(x, "q");
+        Given.due("row", x.row(), 400);
+    }
+
     private static void latest() {
         MatchTrees x = new MatchTrees();
         Given.due("fault ahead of any", x.fault(0), 0);
@@ -244,6 +263,7 @@ public final class FaultTest {
         tooMany();
         sizes();
         rows();
+        rowsOfTwoFields();
         latest();
         Given.finish();
     }

@@ -202,6 +202,11 @@ public final class PromiseTest {
         x.swap(0, 1);
         Given.due("swapped", x.fits(0, 0, 5), 1);
         Given.due("without a match", new MatchTrees().fits(0, 0, 0), NONE);
+        for (String text : new String[] {"match num num;", "match num;", "match num;arm any;"}) {
+            Given.put(x, text);
+            x.match();
+        }
+        Given.due("a column of an older match", x.fits(0, 1, 0), NONE);
     }
 
     private static void promise11() {
