@@ -1225,8 +1225,8 @@ public final class MatchTrees {
                 return failHere();
             }
             int rows = 1;
-            while (isKindWord() && table.columns <= COLUMNS_MOST) {
-                if (table.columns == COLUMNS_MOST) {
+            for (int c = 0; c <= COLUMNS_MOST && isKindWord(); c++) {
+                if (c == COLUMNS_MOST) {
                     return fail(FAULT_MANY, scan.at);
                 }
                 if (!isKindHere(NONE)) {
