@@ -856,7 +856,7 @@ public final class MatchTrees {
             if (kind == NUM) {
                 return NUMS;
             }
-            return isKind(kind) ? size[kind] : 0;
+            return kind >= 0 && kind < kinds ? size[kind] : 0;
         }
 
         int consOf(int kind) {
@@ -1084,7 +1084,9 @@ public final class MatchTrees {
         }
 
         private boolean failHere() {
-            return fail(FAULT_SYNTAX, scan.type == Scanner.BAD ? scan.stop : scan.at);
+            fault = FAULT_SYNTAX;
+            place = scan.type == Scanner.BAD ? scan.stop : scan.at;
+            return false;
         }
 
         private boolean readSign(int sign) {

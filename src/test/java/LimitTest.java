@@ -87,11 +87,38 @@ public final class LimitTest {
         Given.due("bytes of dear calls are few: " + taken, taken < 200000, true);
     }
 
+    /** An object is used for at most 512 calls: the last of them answers as the first does. */
+    private static void manyCalls() {
+        MatchTrees x = new MatchTrees();
+        for (int i = 1; i <= 511; i++) {
+            x.run(-1);
+        }
+        Given.due("refused by 511 calls", x.status(2), 511);
+        MatchTrees y = new MatchTrees();
+        Given.put(y, dear());
+        y.match();
+        int best = y.best(1);
+        int shut = y.scopes(3, 3, 998);
+        for (int i = 0; i < 440; i++) {
+            Given.due("best, call " + i, y.best(1), best);
+        }
+        Given.due("scopes, the last call", y.scopes(3, 3, 998), shut);
+        MatchTrees z = Given.matched("match num;");
+        int untaken = 0;
+        for (int i = 0; i < 490; i++) {
+            untaken += z.chance(40);
+        }
+        Given.due("all are taken by none", untaken, 490 * 40);
+        Given.due("told", z.has(7), 40);
+        Given.due("acts", z.has(9), 20);
+    }
+
     public static void main(String[] args) throws ReflectiveOperationException {
         for (long seed = 1; seed <= 400; seed++) {
             wild(seed);
         }
         room();
+        manyCalls();
         Given.finish();
     }
 }
