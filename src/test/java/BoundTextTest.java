@@ -178,6 +178,15 @@ public final class BoundTextTest {
         Given.badRow(x, "s(r(q(p(19)))", 1, 13);
         Given.same("text", Given.octets(x, x.text(7)), "s(r(q(p(7))))");
         Given.bad("kind a;con p num;kind b;con q a;match b;arm q(p(1 or 20));", 4, 53);
+        String seconds = "kind a;con z;con p;kind b;con q a a;kind c;con r a b;kind d;con s a c;match d;";
+        MatchTrees y = Given.good(seconds + "arm s(z or p,r(z,q(p,z or p)));arm s(any,r(any,q(any,p)));", 12);
+        for (int v = 0; v < 16; v++) {
+            Given.due("first fits " + v, y.fits(0, 0, v), (v & 6) == 2 ? 1 : 0);
+            Given.due("second fits " + v, y.fits(1, 0, v), v & 1);
+        }
+        Given.goodRow(y, "s(z,r(p,q(z,p)))", 5);
+        Given.same("text", Given.octets(y, y.text(10)), "s(p,r(z,q(p,z)))");
+        Given.bad(seconds + "arm s(z,r(z,q(z,q)));", 3, seconds.length() + 16);
     }
 
     private static void bytes() {

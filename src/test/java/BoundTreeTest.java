@@ -142,6 +142,17 @@ public final class BoundTreeTest {
             Given.same("p(any) or q(any)", line(y, 0, 0, 42), "1".repeat(22) + "0".repeat(20));
             Given.same("r(any) or q(t)", line(y, 1, 0, 42), "0".repeat(20) + "10" + "1".repeat(20));
             Given.same("q(any)", line(y, 2, 0, 42), "0".repeat(20) + "11" + "0".repeat(20));
+            MatchTrees z = Given.matched("kind a;con p num;kind b;con q num a;match b;arm q(3 or 7,p(5 to 6));");
+            for (int v = 0; v < 400; v++) {
+                boolean due = (v / 20 == 3 || v / 20 == 7) && (v % 20 == 5 || v % 20 == 6);
+                Given.due("q(3 or 7,p(5 to 6)) fits " + v, z.fits(0, 0, v), due ? 1 : 0);
+            }
+            MatchTrees w = Given.matched("kind a;con o;con p num;kind b;con n;con q a num;match b;"
+                + "arm q(p(5 to 6)or o,3);");
+            for (int v = 0; v < 421; v++) {
+                boolean due = v == 4 || v == 1 + 6 * 20 + 3 || v == 1 + 7 * 20 + 3;
+                Given.due("q(p(5 to 6) or o,3) fits " + v, w.fits(0, 0, v), due ? 1 : 0);
+            }
         });
     }
 
@@ -381,6 +392,10 @@ public final class BoundTreeTest {
             MatchTrees y = Given.matched("match num num;arm 1,1;arm 1,2;arm 1,3;arm 2,1;");
             Given.due("three and two", y.first(3), 1);
             Given.due("but by 2", y.first(2), 0);
+            MatchTrees least = Given.matched("match num num;arm 0,1;arm 0,2;arm 0,3;arm 1,1;");
+            Given.due("three of the least value", least.first(3), 1);
+            MatchTrees last = Given.matched("match num num;arm 19,1;arm 19,2;arm 19,3;arm 1,1;");
+            Given.due("three of the last value", last.first(3), 1);
         });
         Given.test("of like ones the first (COLUMNS)", () -> {
             MatchTrees x = Given.matched("match num num num;arm any,1,1;arm any,2,2;");
