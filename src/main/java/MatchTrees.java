@@ -1054,15 +1054,25 @@ public final class MatchTrees {
             table.clear();
             begin(tape);
             int statements = 0;
-            while (scan.type != Scanner.END && statements <= STATEMENTS_MOST) {
-                if (statements == STATEMENTS_MOST) {
-                    fail(FAULT_MANY, scan.at);
-                    return NONE;
+            while (scan.type != Scanner.END && statements < STATEMENTS_MOST) {
+                boolean good;
+                switch (scan.own) {
+                    case WORD_KIND: good = readKind(); break;
+                    case WORD_CON: good = readCon(); break;
+                    case WORD_MATCH: good = readColumns(); break;
+                    case WORD_ARM: good = readArm(); break;
+                    case WORD_RULE: good = readRule(); break;
+                    case WORD_BUDGET: good = readBudget(); break;
+                    default: good = failHere();
                 }
-                if (!readStatement() || !readSign(';')) {
+                if (!good || !readSign(';')) {
                     return NONE;
                 }
                 statements++;
+            }
+            if (scan.type != Scanner.END) {
+                fail(FAULT_MANY, scan.at);
+                return NONE;
             }
             if (table.columns == 0) {
                 failHere();
@@ -1111,24 +1121,16 @@ public final class MatchTrees {
             return number;
         }
 
-        private boolean readStatement() {
-            switch (scan.own) {
-                case WORD_KIND: return readKind();
-                case WORD_CON: return readCon();
-                case WORD_MATCH: return readColumns();
-                case WORD_ARM: return readArm();
-                case WORD_RULE:
-                    scan.step();
-                    int rule = readNumber(0, RULES - 1);
-                    table.rule = rule;
-                    return rule != NONE;
-                case WORD_BUDGET:
-                    scan.step();
-                    int budget = readNumber(1, BUDGET_MOST);
-                    table.budget = budget;
-                    return budget != NONE;
-                default: return failHere();
-            }
+        private boolean readRule() {
+            scan.step();
+            table.rule = readNumber(0, RULES - 1);
+            return table.rule != NONE;
+        }
+
+        private boolean readBudget() {
+            scan.step();
+            table.budget = readNumber(1, BUDGET_MOST);
+            return table.budget != NONE;
         }
 
         private boolean readKind() {
